@@ -670,7 +670,7 @@ public final class ChildCoins {
 
         private void settle(int d, int debtor, int[] used) {
             int creditor = creditor(d);
-            for (int c = 0; c < MAX_COINS && c < used.length; c++) {
+            for (int c = 0; c < MAX_COINS; c++) {
                 add(debtor, c, -used[c]);
                 add(creditor, c, used[c]);
             }
@@ -823,26 +823,30 @@ public final class ChildCoins {
         private void search(Land land, Now now, Payment payment) {
             trial.becomeAnew(now);
             bestLength = 0;
-            extend(land, payment, 0);
+            extend(this, land, payment, 0);
         }
 
         /** Rows come in the order of their numbers, so of several as long the first found stays. */
-        private void extend(Land land, Payment payment, int depth) {
-            if (depth > bestLength) {
-                bestLength = depth;
-                System.arraycopy(row, 0, best, 0, depth);
-            }
+        private static void extend(Rows rows, Land land, Payment payment, int depth) {
+            rows.noteRow(depth);
             if (depth >= MAX_DEBTS) return;
+            Now trial = rows.trial;
             for (int d = 0; d < land.debts; d++) {
-                // no row from here can be longer than the best when all that is left is paid
-                if (depth + Integer.bitCount(trial.openBits()) <= bestLength) return;
+                // no row from here can be longer than the best, even if all that is left were paid
+                if (depth + Integer.bitCount(trial.openBits()) <= rows.bestLength) return;
                 if (!trial.isOpen(d) || !payment.settles(land, trial, d, trial.creditor(d))) continue;
-                row[depth] = d;
+                rows.row[depth] = d;
                 trial.remember();
                 trial.settle(d, land.debtor[d], payment.used);
-                extend(land, payment, depth + 1);
+                extend(rows, land, payment, depth + 1);
                 trial.stepBack();
             }
+        }
+
+        private void noteRow(int length) {
+            if (length <= bestLength) return;
+            bestLength = length;
+            System.arraycopy(row, 0, best, 0, length);
         }
     }
 }

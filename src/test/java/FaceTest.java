@@ -21,7 +21,7 @@ public final class FaceTest {
     "int keep(int)", "int back(int)", "int count(int)", "long trace()"};
   private static final String[] RULED_OUT = {
     "\\b(throw|throws|try|catch|synchronized|assert|import|package)\\b", "->", "::", "\\bequals\\b",
-    "\\bhashCode\\b", "\\btoString\\b", "\\w*Exact\\b", "\\bprotected\\b", "[^\\x01-\\x7f]", "\\bthis\\b"};
+    "\\bhashCode\\b", "\\btoString\\b", "\\w*Exact\\b", "\\bprotected\\b", "[^\\x01-\\x7f]"};
 
   public static void main(String[] args) throws IOException {
     Check check = new Check("FaceTest");

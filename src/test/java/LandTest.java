@@ -13,6 +13,8 @@ public final class LandTest {
     faults();
     faultChangesNothing();
     readAnew();
+    readOften();
+    fullTexts();
     coins();
     people();
     holdings();
@@ -97,6 +99,8 @@ public final class LandTest {
     faultAt("c0 1;c0 1;c0 1;c0 1;c0 1;c0 1;c0 1;", 30);
     faultAt("c0 1;c0 1;c0 1;c0 1;c0 1;c0 1; c", 31);
     faultAt("cc0 1;", 0);
+    faultAt("ca0 1;", 0);
+    faultAt("cz0 1;", 0);
     faultAt("c d0 1;", 2);
     faultAt("C0 1;", 0);
     faultAt(" x;", 1);
@@ -165,6 +169,33 @@ public final class LandTest {
     check.due("nobody", x.count(1), 0);
   }
 
+  /** What an earlier text told, or one with a fault, is not in a later one. */
+  private static void readOften() {
+    ChildCoins x = new ChildCoins();
+    for (int i = 0; i < 3; i++) {
+      check.due("much", Check.tell(x, LAND), 23);
+      check.due("little", Check.tell(x, "c1 1;p1;p1;d1 0 1;"), 4);
+      int[] counts = {1, 2, 1, 9};
+      for (int what = 0; what < 4; what++) check.due("little count(" + what + ")", x.count(what), counts[what]);
+      check.due("little holds", x.now(2), 0);
+      check.due("fault", Check.tell(x, "c1 1;p1;p1;h1 0 9;d0 1 9;s20;s"), -39);
+      check.due("still little", x.count(3), 9);
+      x.clear();
+      check.due("little again", Check.tell(x, "p1;c1 1;"), 2);
+      check.due("no debts", x.count(2), 0);
+      check.due("no span told", x.count(3), 9);
+      check.due("no holds", x.holds(0, 0), 0);
+    }
+  }
+
+  private static void fullTexts() {
+    for (String end : new String[] {"c0 1;", "c0 1", "c0", "c", "cccccccccc", "10", "1111111111", ";", "?", " "}) {
+      String text = " ".repeat(180 - end.length()) + end;
+      int place = end.startsWith("cc") || !end.startsWith("c") ? 180 - end.length() : 180;
+      reads(text, end.equals("c0 1;") ? 1 : end.equals(" ") ? 0 : -10 - place);
+    }
+  }
+
   private static void coins() {
     ChildCoins x = Check.land(LAND);
     int[][] want = {{10, 1, 3, 7}, {12, 3, 3, 2}, {12, 5, 3, 3}, {20, 2, 4, 7}, {25, 5, 0, 2}};
@@ -225,6 +256,12 @@ public final class LandTest {
     }
     check.due("debt(-1, 0)", x.debt(-1, 0), BAD);
     check.due("debt(5, 0)", x.debt(5, 0), BAD);
+    check.due("heir 0", Check.land("c7 1;p0;p0;p0;h2 0 5;d2 1 3;").debt(0, 6), 3);
+    ChildCoins z = Check.land("c7 1;p0;p0;p0;h0 0 5;d0 1 3;");
+    z.pays(0);
+    check.due("heirs of a closed one by what is left", z.debt(0, 6), 0);
+    z.finds(0, 0);
+    check.due("heirs of a closed one", z.debt(0, 6), 6);
     ChildCoins y = Check.land("c7 1;c8 1;p0;p0;p1;h0 0 5;d0 1 3;s1;");
     check.due("heirs, the creditor among them", y.debt(0, 6), 2);
     y.passes(0, 2);
