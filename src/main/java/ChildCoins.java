@@ -295,6 +295,8 @@ public final class ChildCoins {
     }
 
     private int heirs(int d) {
+        // only what is open can be paid, to whomever
+        if (!present.isOpen(d)) return 0;
         int bits = 0;
         for (int p = 0; p < ours.people; p++) {
             if (p != ours.debtor[d] && payment.settles(ours, present, d, p)) bits |= 1 << p;

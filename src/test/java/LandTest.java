@@ -259,9 +259,12 @@ public final class LandTest {
     check.due("heir 0", Check.land("c7 1;p0;p0;p0;h2 0 5;d2 1 3;").debt(0, 6), 3);
     ChildCoins z = Check.land("c7 1;p0;p0;p0;h0 0 5;d0 1 3;");
     z.pays(0);
-    check.due("heirs of a closed one by what is left", z.debt(0, 6), 0);
     z.finds(0, 0);
-    check.due("heirs of a closed one", z.debt(0, 6), 6);
+    check.due("a closed one has pieces", z.debt(0, 4), 3);
+    check.due("a closed one has no heirs", z.debt(0, 6), 0);
+    z.undo();
+    z.undo();
+    check.due("open again, it has heirs", z.debt(0, 6), 6);
     ChildCoins y = Check.land("c7 1;c8 1;p0;p0;p1;h0 0 5;d0 1 3;s1;");
     check.due("heirs, the creditor among them", y.debt(0, 6), 2);
     y.passes(0, 2);

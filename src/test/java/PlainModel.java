@@ -208,9 +208,7 @@ final class PlainModel {
       default: break;
     }
     int bits = 0;
-    Now asIfOpen = now.copy();
-    asIfOpen.open[d] = true;
-    for (int p = 0; p < people.size(); p++) if (p != t[0] && paid(asIfOpen, d, p) != null) bits += 1 << p;
+    for (int p = 0; p < people.size(); p++) if (p != t[0] && paid(now, d, p) != null) bits += 1 << p;
     return bits;
   }
 
